@@ -50,7 +50,7 @@ public final class PellMills {
 
     public PellMills() {
         roots = new Roots();
-        power = new Power(roots);
+        power = new Power();
         queue = new Queue(roots);
         powerSet = new PowerSet(roots);
         now = new State(roots);
@@ -58,7 +58,6 @@ public final class PellMills {
         snapshot = new State(roots);
         history = new History(roots);
         text = new Text();
-        hasSnapshot = false;
     }
 
     // ---- changes
@@ -293,8 +292,7 @@ public final class PellMills {
     }
 
     public int play() throws IllegalStateException {
-        readText();
-        if (text.reason != NO_FAULT) {
+        if (text.findsFault(now, trial)) {
             throw new IllegalStateException("the text has a fault");
         }
         history.record(now);
@@ -329,8 +327,7 @@ public final class PellMills {
     }
 
     private void requireFault() {
-        readText();
-        if (text.reason == NO_FAULT) {
+        if (!text.findsFault(now, trial)) {
             throw new NoSuchElementException("the text has no fault");
         }
     }
@@ -348,14 +345,12 @@ public final class PellMills {
         now.carryOut(order, number);
     }
 
-    // A trial state takes the orders, so that a fault leaves the stones as they are.
-    private void readText() {
-        trial.copyFrom(now);
-        text.read(trial);
-    }
-
     private Power powerOfLaid(int number) {
-        power.climbTo(number, now.heightOf(number));
+        int height = now.heightOf(number);
+        roots.begin(power, number);
+        for (int passed = 0; passed < height && passed < FAR_BOUND; passed++) {
+            power.climb();
+        }
         return power;
     }
 
@@ -383,7 +378,7 @@ public final class PellMills {
     }
 
     private int countPowersUpTo(int number, long bound) {
-        power.begin(number);
+        roots.begin(power, number);
         for (int count = 0; count < FAR_BOUND; count++) {
             if (!power.climb() || power.x > bound) {
                 return count;
@@ -453,18 +448,21 @@ public final class PellMills {
         }
     }
 
-    /** What is the same in every state: periods and units; a square has the period 0. */
+    /** What is the same in every state; a square has the period 0. */
     private static final class Roots {
         private final Terms terms = new Terms();
         private final int[] periods = new int[GREATEST_NUMBER + 1];
         private final int[] unitXs = new int[GREATEST_NUMBER + 1];
         private final int[] unitYs = new int[GREATEST_NUMBER + 1];
+        private final int[] greatestPowers = new int[GREATEST_NUMBER + 1];
 
         Roots() {
+            Power power = new Power();
             for (int number = LEAST_NUMBER; number <= GREATEST_NUMBER; number++) {
                 terms.begin(number);
                 if (!terms.isSquare()) {
                     findUnit(number);
+                    findGreatestPower(number, power);
                 }
             }
         }
@@ -491,6 +489,17 @@ public final class PellMills {
             }
         }
 
+        private void findGreatestPower(int number, Power power) {
+            begin(power, number);
+            for (int height = 1; height < FAR_BOUND && power.climb(); height++) {
+                greatestPowers[number] = height;
+            }
+        }
+
+        void begin(Power power, int number) {
+            power.begin(number, xOfUnit(number), yOfUnit(number));
+        }
+
         int term(int number, int place) {
             terms.begin(number);
             for (int passed = 0; passed < place && passed < GREATEST_TERM; passed++) {
@@ -500,53 +509,44 @@ public final class PellMills {
         }
 
         boolean isSquare(int number) {
-            return period(number) == 0;
+            return number >= 0 && number < periods.length && periods[number] == 0;
         }
 
         int period(int number) {
-            return isNumber(number) ? periods[number] : 0;
+            return number >= 0 && number < periods.length ? periods[number] : 0;
         }
 
         int xOfUnit(int number) {
-            return isNumber(number) ? unitXs[number] : 0;
+            return number >= 0 && number < unitXs.length ? unitXs[number] : 0;
         }
 
         int yOfUnit(int number) {
-            return isNumber(number) ? unitYs[number] : 0;
+            return number >= 0 && number < unitYs.length ? unitYs[number] : 0;
         }
 
         int signOfUnit(int number) {
             return period(number) % 2 == 0 ? 1 : -1;
         }
+
+        int greatestPower(int number) {
+            return number >= 0 && number < greatestPowers.length ? greatestPowers[number] : 0;
+        }
     }
 
     /** Climbs from power to power of a unit, as far as the document lets x grow. */
     private static final class Power {
-        private final Roots roots;
         private int unitX;
         private int unitY;
         int number;
         long x;
         long y;
 
-        Power(Roots roots) {
-            this.roots = roots;
-            begin(LEAST_NUMBER);
-        }
-
-        void begin(int first) {
-            number = first;
-            unitX = roots.xOfUnit(first);
-            unitY = roots.yOfUnit(first);
+        void begin(int ofNumber, int xOfUnit, int yOfUnit) {
+            number = ofNumber;
+            unitX = xOfUnit;
+            unitY = yOfUnit;
             x = 1;
             y = 0;
-        }
-
-        void climbTo(int first, int height) {
-            begin(first);
-            for (int passed = 0; passed < height && passed < FAR_BOUND; passed++) {
-                climb();
-            }
         }
 
         // The first test keeps the products within a long: number * y * unitY is near x * unitX.
@@ -570,21 +570,22 @@ public final class PellMills {
 
     /** The next power of each stone waits here; the first one in order is passed and climbs. */
     private static final class Queue {
+        private final Roots roots;
         private final Power[] waiting = new Power[MOST_STONES];
         private int size;
 
         Queue(Roots roots) {
+            this.roots = roots;
             for (int index = 0; index < waiting.length; index++) {
-                waiting[index] = new Power(roots);
+                waiting[index] = new Power();
             }
-            size = 0;
         }
 
         void fill(State state) {
             size = 0;
             for (int number = LEAST_NUMBER; number <= GREATEST_NUMBER; number++) {
                 if (state.has(number) && size < waiting.length) {
-                    waiting[size].begin(number);
+                    roots.begin(waiting[size], number);
                     if (waiting[size].climb()) {
                         size++;
                     }
@@ -625,13 +626,13 @@ public final class PellMills {
 
     /** The x of all powers of all stones in order; those of two stones that are the same stay two. */
     private static final class PowerSet {
-        private final Power power;
+        private final Roots roots;
+        private final Power power = new Power();
         private final long[] xs = new long[MOST_SOLUTIONS];
         int size;
 
         PowerSet(Roots roots) {
-            power = new Power(roots);
-            size = 0;
+            this.roots = roots;
         }
 
         void fill(State state) {
@@ -648,7 +649,7 @@ public final class PellMills {
         }
 
         private void addPowers(int number) {
-            power.begin(number);
+            roots.begin(power, number);
             for (int height = 1; height <= FAR_BOUND && power.climb(); height++) {
                 add(power.x);
             }
@@ -672,17 +673,13 @@ public final class PellMills {
         private static final int NOT_LAID = -1;
 
         private final Roots roots;
-        private final Power power;
         private final int[] heights = new int[GREATEST_NUMBER + 1];
         int laid;
         int millings;
 
         State(Roots roots) {
             this.roots = roots;
-            power = new Power(roots);
             Arrays.fill(heights, NOT_LAID);
-            laid = 0;
-            millings = 0;
         }
 
         void copyFrom(State other) {
@@ -696,7 +693,7 @@ public final class PellMills {
         }
 
         int heightOf(int number) {
-            return isNumber(number) ? heights[number] : NOT_LAID;
+            return number >= 0 && number < heights.length ? heights[number] : NOT_LAID;
         }
 
         int sign(int number) {
@@ -707,7 +704,7 @@ public final class PellMills {
             if (roots.isSquare(number)) {
                 return 1;
             }
-            if (has(number)) {
+            if (heightOf(number) != NOT_LAID) {
                 return 2;
             }
             return laid >= MOST_STONES ? 3 : 0;
@@ -717,15 +714,14 @@ public final class PellMills {
             if (!isNumber(number)) {
                 return BY_ARGUMENT;
             }
-            boolean possible;
+            int height = heightOf(number);
+            boolean possible = height != NOT_LAID;
             if (order == LAY) {
                 possible = reasonAgainstLaying(number) == 0;
             } else if (order == MILL) {
-                possible = has(number) && hasNextPower(number);
+                possible = height != NOT_LAID && height < roots.greatestPower(number);
             } else if (order == MILL_BACK) {
-                possible = heightOf(number) > 0;
-            } else {
-                possible = has(number);
+                possible = height > 0;
             }
             return possible ? POSSIBLE : BY_STATE;
         }
@@ -745,13 +741,8 @@ public final class PellMills {
             }
         }
 
-        private boolean hasNextPower(int number) {
-            power.climbTo(number, heightOf(number));
-            return power.climb();
-        }
-
         private void setHeight(int number, int height) {
-            if (isNumber(number)) {
+            if (number >= 0 && number < heights.length) {
                 heights[number] = height;
             }
         }
@@ -766,7 +757,6 @@ public final class PellMills {
             for (int index = 0; index < rows.length; index++) {
                 rows[index] = new State(roots);
             }
-            size = 0;
         }
 
         void record(State state) {
@@ -817,7 +807,9 @@ public final class PellMills {
             return true;
         }
 
-        void read(State trial) {
+        // A trial state takes the orders, so that a fault leaves the stones as they are.
+        boolean findsFault(State state, State trial) {
+            trial.copyFrom(state);
             orders = 0;
             position = 0;
             reason = NO_FAULT;
@@ -825,6 +817,7 @@ public final class PellMills {
             for (int turn = 0; turn < LONGEST_TEXT && position < length && reason == NO_FAULT; turn++) {
                 readOrder(trial);
             }
+            return reason != NO_FAULT;
         }
 
         private void readOrder(State trial) {

@@ -40,6 +40,9 @@ public final class SolutionsTest {
     private static void checkEnds(Check check) {
         PellMills mills = Check.milled(46, 60);
         check.due("promise 22: solutions() of 46 and 60", mills.solutions(), 11);
+        check.due("promise 23: xAt(0)", mills.xAt(0), 31);
+        check.due("promise 24: xAtBySet(0)", mills.xAtBySet(0), 31);
+        check.due("promise 25: stoneAt(0)", mills.stoneAt(0), 60);
         check.due("promise 23: xAt(10)", mills.xAt(10), 108942999582721L);
         check.due("promise 24: xAtBySet(10)", mills.xAtBySet(10), 108942999582721L);
         check.due("promise 25: stoneAt(10)", mills.stoneAt(10), 60);
