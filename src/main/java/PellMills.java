@@ -420,9 +420,9 @@ public final class PellMills {
         int q;
         int term;
 
-        void begin(int first) {
-            number = first;
-            whole = wholeRoot(first);
+        void begin(int ofNumber) {
+            number = ofNumber;
+            whole = wholeRoot(ofNumber);
             m = 0;
             q = 1;
             term = whole;
