@@ -1,193 +1,267 @@
-/** Promises 1 to 6 and 13 to 21: stones that are laid, taken and milled. */
+import java.math.BigInteger;
+
+/** Promises 13 to 21: what is told of the stones that are laid. */
 public final class StonesTest {
-    private static final int[] WRONG_NUMBERS = {1, 61, 0, -7, Integer.MIN_VALUE, Integer.MAX_VALUE};
+    private static final String OUT_OF_RANGE = "Throws IllegalArgumentException if number is out of range";
 
     public static void main(String[] args) {
         Check check = new Check();
-        checkNewObject(check);
-        checkLaying(check);
-        checkTaking(check);
-        checkMilling(check);
-        checkGreatestPowers(check);
-        checkStoneFrom(check);
-        checkSigns(check);
-        checkNearRoot(check);
-        checkWrongNumbers(check);
-        checkNotLaid(check);
+        run(check);
         check.end();
     }
 
-    private static void checkNewObject(Check check) {
+    static void run(Check check) {
+        promise13(check);
+        promise14(check);
+        promise15(check);
+        promise16(check);
+        promise17(check);
+        promise18(check);
+        promise19(check);
+        promise20(check);
+        promise21(check);
+    }
+
+    private static void promise13(Check check) {
+        check.heading("Promise 13");
+        check.sentence("Returns how many stones are laid.");
         PellMills mills = new PellMills();
-        check.due("promise 1: stones()", mills.stones(), 0);
-        check.due("promise 1: solutions()", mills.solutions(), 0);
-        check.due("promise 1: milled()", mills.milled(), 0);
-        check.due("promise 1: minusStones()", mills.minusStones(), 0);
-        check.due("promise 1: states()", mills.states(), 0);
-        check.dueThrow("promise 1: goBack()", Check.STATE, mills::goBack);
-        check.dueThrow("promise 1: undo()", Check.STATE, mills::undo);
-        check.due("promise 1: clearText()", mills.clearText(), 0);
+        check.due("stones() of none", mills.stones(), 0);
+        int[] numbers = {2, 60, 3, 59, 5, 58, 6, 57};
+        for (int i = 0; i < numbers.length; i++) {
+            mills.lay(numbers[i]);
+            mills.mill(numbers[i]);
+            check.due("stones() behind lay(" + numbers[i] + ")", mills.stones(), i + 1);
+        }
+        check.sentence("Returns how many.");
+        Check.outcome(() -> mills.lay(7));
+        check.due("stones() behind a ninth one that was refused", mills.stones(), 8);
+        for (int i = 0; i < numbers.length; i++) {
+            mills.take(numbers[i]);
+            check.due("stones() behind take(" + numbers[i] + ")", mills.stones(), numbers.length - 1 - i);
+        }
+        Check.outcome(() -> mills.take(2));
+        check.due("stones() behind a take that was refused", mills.stones(), 0);
+    }
+
+    private static void promise14(Check check) {
+        check.heading("Promise 14");
+        check.sentence("Tells whether a stone is laid.");
+        PellMills mills = new PellMills();
+        check.due("isLaid(60) ahead of lay", mills.isLaid(60), false);
+        mills.lay(60);
+        check.due("isLaid(60) behind lay", mills.isLaid(60), true);
+        mills.take(60);
+        check.due("isLaid(60) behind take", mills.isLaid(60), false);
+        check.sentence("number: 2 to 60");
+        check.numbersFrom2To60(PellMills::isLaid);
+        check.sentence("Returns whether it is.");
         for (int number = 2; number <= 60; number++) {
-            check.due("promise 1: isLaid(" + number + ")", mills.isLaid(number), false);
+            check.due("isLaid(" + number + ") of 2, 7, 13", Scene.BUSY.made().isLaid(number), number == 2 || number == 7 || number == 13);
+            check.due("isLaid(" + number + ") of none", new PellMills().isLaid(number), false);
         }
-        PellMills other = new PellMills();
-        other.lay(2);
-        check.due("promise 1: stones() beside another object", mills.stones(), 0);
+        check.sentence(OUT_OF_RANGE);
+        check.numbersOutOfRange(PellMills::isLaid);
     }
 
-    private static void checkLaying(Check check) {
-        PellMills mills = new PellMills();
-        check.due("promise 6: whyNot(2)", mills.whyNot(2), 0);
-        check.due("promise 2: lay(2)", mills.lay(2), 1);
-        check.due("promise 6: whyNot(2) laid", mills.whyNot(2), 2);
-        check.due("promise 6: whyNot(3)", mills.whyNot(3), 0);
-        check.due("promise 6: whyNot(4)", mills.whyNot(4), 1);
-        check.dueThrow("promise 2: lay(2) again", Check.STATE, () -> mills.lay(2));
-        check.dueThrow("promise 2: lay(4)", Check.STATE, () -> mills.lay(4));
-        int[] more = {60, 3, 5, 6, 7, 8, 10};
-        for (int i = 0; i < more.length; i++) {
-            check.due("promise 2: lay(" + more[i] + ")", mills.lay(more[i]), i + 2);
+    private static void promise15(Check check) {
+        check.heading("Promise 15");
+        check.sentence("Returns the stone with the least number that is not below a number.");
+        PellMills mills = Scene.milled(60, 7, 13, 7);
+        check.due("stoneFrom(6), below a stone", mills.stoneFrom(6), 7);
+        check.due("stoneFrom(7), at a stone", mills.stoneFrom(7), 7);
+        check.due("stoneFrom(8), above a stone", mills.stoneFrom(8), 13);
+        check.due("stoneFrom(13)", mills.stoneFrom(13), 13);
+        check.due("stoneFrom(14)", mills.stoneFrom(14), 60);
+        check.sentence("number: 2 to 60");
+        check.numbersFrom2To60(PellMills::stoneFrom);
+        check.due("stoneFrom(2)", mills.stoneFrom(2), 7);
+        check.due("stoneFrom(60)", mills.stoneFrom(60), 60);
+        check.due("stoneFrom(2) of 2", Scene.milled(2).stoneFrom(2), 2);
+        check.sentence("Returns its number.");
+        for (int number = 2; number <= 60; number++) {
+            check.due("stoneFrom(" + number + ")", mills.stoneFrom(number), number <= 7 ? 7 : number <= 13 ? 13 : 60);
         }
-        check.due("promise 13: stones()", mills.stones(), 8);
-        check.due("promise 14: isLaid(60)", mills.isLaid(60), true);
-        check.due("promise 14: isLaid(59)", mills.isLaid(59), false);
-        check.dueThrow("promise 2: a ninth stone", Check.STATE, () -> mills.lay(59));
-        check.due("promise 6: whyNot(59) of a ninth", mills.whyNot(59), 3);
-        check.due("promise 6: whyNot(60) of eight", mills.whyNot(60), 2);
-        check.due("promise 6: whyNot(49) of eight", mills.whyNot(49), 1);
-        check.due("promise 13: stones() after a refusal", mills.stones(), 8);
-        check.due("promise 16: powerOf(60)", mills.powerOf(60), 0);
-        check.due("promise 17: xOf(60)", mills.xOf(60), 1);
-        check.due("promise 18: yOf(60)", mills.yOf(60), 0);
-    }
-
-    private static void checkTaking(Check check) {
-        PellMills mills = Check.milled(2, 3, 3, 3, 3, 2);
-        check.due("promise 3: take(3)", mills.take(3), 3);
-        check.due("promise 13: stones() after take", mills.stones(), 1);
-        check.due("promise 14: isLaid(3) after take", mills.isLaid(3), false);
-        check.dueThrow("promise 3: take(3) again", Check.STATE, () -> mills.take(3));
-        check.dueThrow("promise 3: take(4)", Check.STATE, () -> mills.take(4));
-        check.due("promise 16: powerOf(2) after take(3)", mills.powerOf(2), 1);
-        check.due("promise 2: lay(3) after take", mills.lay(3), 2);
-        check.due("promise 16: powerOf(3) laid anew", mills.powerOf(3), 0);
-        check.due("promise 3: take(3) at the power 0", mills.take(3), 0);
-    }
-
-    private static void checkMilling(Check check) {
-        PellMills mills = Check.milled(2, 13);
-        long[] xs = {1, 3, 7, 17, 41, 99};
-        long[] ys = {1, 2, 5, 12, 29, 70};
-        for (int i = 0; i < xs.length; i++) {
-            check.due("promise 4: mill(2)", mills.mill(2), xs[i]);
-            check.due("promise 16: powerOf(2)", mills.powerOf(2), i + 1);
-            check.due("promise 17: xOf(2)", mills.xOf(2), xs[i]);
-            check.due("promise 18: yOf(2)", mills.yOf(2), ys[i]);
+        check.sentence(OUT_OF_RANGE);
+        check.numbersOutOfRange(PellMills::stoneFrom);
+        check.sentence("Throws NoSuchElementException if there is none");
+        for (int number : new int[] {2, 3, 4, 60}) {
+            check.refused("stoneFrom(" + number + ") of none", Check.NONE, Scene.FRESH, at -> at.stoneFrom(number));
         }
-        check.due("promise 4: mill(13)", mills.mill(13), 18);
-        check.due("promise 4: mill(13)", mills.mill(13), 649);
-        check.due("promise 18: yOf(13)", mills.yOf(13), 180);
-        for (int i = xs.length - 2; i >= 0; i--) {
-            check.due("promise 5: millBack(2)", mills.millBack(2), xs[i]);
-            check.due("promise 18: yOf(2) milled back", mills.yOf(2), ys[i]);
+        check.due("stoneFrom(13) of 13, the last one", Scene.BUSY.made().stoneFrom(13), 13);
+        check.due("stoneFrom(12) of 13, the last one", Scene.BUSY.made().stoneFrom(12), 13);
+        check.refused("stoneFrom(14) above the last one", Check.NONE, Scene.BUSY, at -> at.stoneFrom(14));
+        check.refused("stoneFrom(60) above the last one", Check.NONE, Scene.BUSY, at -> at.stoneFrom(60));
+        mills.take(60);
+        check.dueThrow("stoneFrom(14) behind take(60)", Check.NONE, () -> mills.stoneFrom(14));
+    }
+
+    private static void promise16(Check check) {
+        check.heading("Promise 16");
+        check.sentence("Returns at which power a stone stands.");
+        PellMills mills = Scene.milled(2, 7, 7);
+        check.due("powerOf(2), never milled", mills.powerOf(2), 0);
+        check.due("powerOf(7), milled once", mills.powerOf(7), 1);
+        check.sentence("Returns the power.");
+        for (int power : new int[] {0, 1, 2, 38, 39}) {
+            check.due("powerOf(2), milled " + power + " times", Scene.at(2, power).powerOf(2), power);
         }
-        check.due("promise 5: millBack(2) to the power 0", mills.millBack(2), 1);
-        check.due("promise 18: yOf(2) at the power 0", mills.yOf(2), 0);
-        check.dueThrow("promise 5: millBack(2) at the power 0", Check.STATE, () -> mills.millBack(2));
-        check.due("promise 16: powerOf(13) meanwhile", mills.powerOf(13), 2);
+        mills = Scene.at(2, 39);
+        mills.millBack(2);
+        check.due("powerOf(2), milled back from 39", mills.powerOf(2), 38);
+        numbersOfStones(check, PellMills::powerOf);
+        check.sentence("Throws NoSuchElementException if it is not laid");
+        notLaid(check, PellMills::powerOf);
+        check.due("powerOf(13), laid at the power 0", Scene.BUSY.made().powerOf(13), 0);
     }
 
-    private static void checkGreatestPowers(Check check) {
-        checkGreatest(check, 2, 39, 423859315570607L);
-        checkGreatest(check, 46, 3, 57643991108495L);
-        checkGreatest(check, 60, 8, 108942999582721L);
-        checkGreatest(check, 53, 5, 3195165155182L);
+    private static void promise17(Check check) {
+        check.heading("Promise 17");
+        check.sentence("Returns the x of a stone.");
+        check.due("xOf(60) at the power 0", Scene.at(60, 0).xOf(60), 1);
+        check.due("xOf(60) at the power 1", Scene.at(60, 1).xOf(60), 31);
+        check.sentence("Returns the x.");
+        check.due("xOf(2) at the power 38", Scene.at(2, 38).xOf(2), 175568277047523L);
+        check.due("xOf(2) at the power 39", Scene.at(2, 39).xOf(2), 423859315570607L);
+        check.due("xOf(46) at the power 2", Scene.at(46, 2).xOf(46), 1184384449);
+        check.due("xOf(46) at the power 3", Scene.at(46, 3).xOf(46), 57643991108495L);
+        check.due("xOf(60) at the power 8", Scene.at(60, 8).xOf(60), 108942999582721L);
+        numbersOfStones(check, PellMills::xOf);
+        check.sentence("Throws NoSuchElementException if it is not laid");
+        notLaid(check, PellMills::xOf);
+        check.due("xOf(13), laid at the power 0", Scene.BUSY.made().xOf(13), 1);
     }
 
-    private static void checkGreatest(Check check, int number, int greatest, long x) {
-        PellMills mills = Check.milled(number);
-        for (int power = 1; power <= greatest; power++) {
+    private static void promise18(Check check) {
+        check.heading("Promise 18");
+        check.sentence("Returns the y of a stone.");
+        check.due("yOf(60) at the power 0", Scene.at(60, 0).yOf(60), 0);
+        check.due("yOf(60) at the power 1", Scene.at(60, 1).yOf(60), 4);
+        check.sentence("Returns the y.");
+        check.due("yOf(13) at the power 2", Scene.at(13, 2).yOf(13), 180);
+        check.due("yOf(46) at the power 1", Scene.at(46, 1).yOf(46), 3588);
+        for (int number = 2; number <= 60; number++) {
+            if (!Scene.isSquare(number)) {
+                normAtEachPower(check, number);
+            }
+        }
+        numbersOfStones(check, PellMills::yOf);
+        check.sentence("Throws NoSuchElementException if it is not laid");
+        notLaid(check, PellMills::yOf);
+        check.due("yOf(13), laid at the power 0", Scene.BUSY.made().yOf(13), 0);
+    }
+
+    private static void normAtEachPower(Check check, int number) {
+        PellMills mills = Scene.milled(number);
+        int greatest = Scene.greatestPower(number);
+        for (int power = 0; power < greatest; power++) {
+            check.due("the sign of x and y of " + number + " at " + power, Math.abs(norm(mills, number)), 1);
             mills.mill(number);
         }
-        check.due("promise 17: greatest x of " + number, mills.xOf(number), x);
-        check.dueThrow("promise 4: mill(" + number + ") above the greatest", Check.STATE, () -> mills.mill(number));
-        check.due("promise 16: powerOf(" + number + ") after the refusal", mills.powerOf(number), greatest);
-        check.due("promise 22: solutions() of " + number, mills.solutions(), greatest);
-        check.due("promise 27: milled() of " + number, mills.milled(), greatest);
+        check.due("the sign of x and y of " + number + " at " + greatest, Math.abs(norm(mills, number)), 1);
     }
 
-    private static void checkStoneFrom(Check check) {
-        PellMills mills = Check.milled(60, 7, 13);
-        check.due("promise 15: stoneFrom(2)", mills.stoneFrom(2), 7);
-        check.due("promise 15: stoneFrom(7)", mills.stoneFrom(7), 7);
-        check.due("promise 15: stoneFrom(8)", mills.stoneFrom(8), 13);
-        check.due("promise 15: stoneFrom(16)", mills.stoneFrom(16), 60);
-        check.due("promise 15: stoneFrom(60)", mills.stoneFrom(60), 60);
-        mills.take(60);
-        check.dueThrow("promise 15: stoneFrom(14)", Check.NONE, () -> mills.stoneFrom(14));
+    private static int norm(PellMills mills, int number) {
+        BigInteger x = BigInteger.valueOf(mills.xOf(number));
+        BigInteger y = BigInteger.valueOf(mills.yOf(number));
+        return x.multiply(x).subtract(y.multiply(y).multiply(BigInteger.valueOf(number))).intValueExact();
     }
 
-    private static void checkSigns(Check check) {
-        PellMills mills = Check.milled(2, 7, 53);
-        for (int number : new int[] {2, 7, 53}) {
-            for (int power = 0; power <= 5; power++) {
-                int due = number != 7 && power % 2 == 1 ? -1 : 1;
-                check.due("promise 19: signOf(" + number + ") at " + power, mills.signOf(number), due);
-                check.due("promise 20: signByRemainders(" + number + ") at " + power, mills.signByRemainders(number), due);
-                mills.mill(power < 5 ? number : 2);
+    private static void promise19(Check check) {
+        check.heading("Promise 19");
+        check.sentence("Returns the sign of the power at which a stone stands, told by the sign of the unit and the power.");
+        signs(check, PellMills::signOf);
+        check.sentence("Returns 1 or -1.");
+        check.due("signOf(53) at the power 0", Scene.at(53, 0).signOf(53), 1);
+        check.due("signOf(53) at the power 1", Scene.at(53, 1).signOf(53), -1);
+        check.due("signOf(53) at the power 2", Scene.at(53, 2).signOf(53), 1);
+        check.due("signOf(60) at the power 1", Scene.at(60, 1).signOf(60), 1);
+        numbersOfStones(check, PellMills::signOf);
+        check.sentence("Throws NoSuchElementException if it is not laid");
+        notLaid(check, PellMills::signOf);
+        check.due("signOf(13), laid at the power 0", Scene.BUSY.made().signOf(13), 1);
+    }
+
+    private static void promise20(Check check) {
+        check.heading("Promise 20");
+        check.sentence("Returns the same, told by what is left of x and y when they are divided by 1000003.");
+        signs(check, PellMills::signByRemainders);
+        check.sentence("Returns 1 or -1.");
+        check.due("signByRemainders(2) at the power 0", Scene.at(2, 0).signByRemainders(2), 1);
+        check.due("signByRemainders(2) at the power 39", Scene.at(2, 39).signByRemainders(2), -1);
+        check.due("signByRemainders(2) at the power 38", Scene.at(2, 38).signByRemainders(2), 1);
+        check.due("signByRemainders(60) at the power 8", Scene.at(60, 8).signByRemainders(60), 1);
+        numbersOfStones(check, PellMills::signByRemainders);
+        check.sentence("Throws NoSuchElementException if it is not laid");
+        notLaid(check, PellMills::signByRemainders);
+        check.due("signByRemainders(13), laid at the power 0", Scene.BUSY.made().signByRemainders(13), 1);
+    }
+
+    /** The sign of each power of each number, from 0 to the greatest one. */
+    private static void signs(Check check, Check.CallOfNumber made) {
+        for (int number = 2; number <= 60; number++) {
+            if (!Scene.isSquare(number)) {
+                PellMills mills = Scene.milled(number);
+                int greatest = Scene.greatestPower(number);
+                for (int power = 0; power < greatest; power++) {
+                    check.due("the sign of " + number + " at " + power, made.answer(mills, number), norm(mills, number));
+                    mills.mill(number);
+                }
+                check.due("the sign of " + number + " at " + greatest, made.answer(mills, number), norm(mills, number));
             }
         }
     }
 
-    private static void checkNearRoot(Check check) {
-        PellMills mills = Check.milled(2, 13, 13);
-        check.due("promise 21: nearRoot(13)", mills.nearRoot(13), 18f / 5f);
-        check.dueThrow("promise 21: nearRoot(2) at the power 0", Check.NONE, () -> mills.nearRoot(2));
-        mills.mill(2);
-        check.due("promise 21: nearRoot(2)", mills.nearRoot(2), 1f);
-        for (int i = 0; i < 37; i++) {
-            mills.mill(2);
+    private static void promise21(Check check) {
+        check.heading("Promise 21");
+        check.sentence("Returns the root of the number of a stone, told nearly: its x, as a float, divided by its y, as a float.");
+        for (int number = 2; number <= 60; number++) {
+            if (!Scene.isSquare(number)) {
+                nearRoots(check, number);
+            }
         }
-        check.due("promise 21: nearRoot(2) at 38", mills.nearRoot(2), (float) mills.xOf(2) / (float) mills.yOf(2));
+        check.sentence("Returns the quotient.");
+        check.due("nearRoot(13) at the power 1", Scene.at(13, 1).nearRoot(13), 3.6f);
+        check.due("nearRoot(2) at the power 1", Scene.at(2, 1).nearRoot(2), 1f);
         // Here the floats of x and y do not divide to the float of the exact quotient.
-        PellMills rounded = Check.milled(53, 53, 53, 53, 53, 53);
-        check.due("promise 21: nearRoot(53)", rounded.nearRoot(53), 7.2801103591918945f);
+        check.due("nearRoot(53) at the power 5", Scene.at(53, 5).nearRoot(53), 7.2801103591918945f);
+        numbersOfStones(check, PellMills::nearRoot);
+        check.sentence("Throws NoSuchElementException if it is not laid, or it stands at the power 0");
+        notLaid(check, PellMills::nearRoot);
+        check.refused("nearRoot(13) at the power 0", Check.NONE, Scene.BUSY, at -> at.nearRoot(13));
+        check.due("nearRoot(7) at the power 1", Scene.BUSY.made().nearRoot(7), 8f / 3f);
+        PellMills mills = Scene.at(7, 1);
+        mills.millBack(7);
+        check.dueThrow("nearRoot(7), milled back to the power 0", Check.NONE, () -> mills.nearRoot(7));
     }
 
-    private static void checkWrongNumbers(Check check) {
-        PellMills mills = Check.milled(2);
-        for (int number : WRONG_NUMBERS) {
-            check.dueThrow("promise 2: lay(" + number + ")", Check.ARGUMENT, () -> mills.lay(number));
-            check.dueThrow("promise 3: take(" + number + ")", Check.ARGUMENT, () -> mills.take(number));
-            check.dueThrow("promise 4: mill(" + number + ")", Check.ARGUMENT, () -> mills.mill(number));
-            check.dueThrow("promise 5: millBack(" + number + ")", Check.ARGUMENT, () -> mills.millBack(number));
-            check.dueThrow("promise 6: whyNot(" + number + ")", Check.ARGUMENT, () -> mills.whyNot(number));
-            check.dueThrow("promise 14: isLaid(" + number + ")", Check.ARGUMENT, () -> mills.isLaid(number));
-            check.dueThrow("promise 15: stoneFrom(" + number + ")", Check.ARGUMENT, () -> mills.stoneFrom(number));
-            check.dueThrow("promise 16: powerOf(" + number + ")", Check.ARGUMENT, () -> mills.powerOf(number));
-            check.dueThrow("promise 17: xOf(" + number + ")", Check.ARGUMENT, () -> mills.xOf(number));
-            check.dueThrow("promise 18: yOf(" + number + ")", Check.ARGUMENT, () -> mills.yOf(number));
-            check.dueThrow("promise 19: signOf(" + number + ")", Check.ARGUMENT, () -> mills.signOf(number));
-            check.dueThrow("promise 20: signByRemainders(" + number + ")", Check.ARGUMENT, () -> mills.signByRemainders(number));
-            check.dueThrow("promise 21: nearRoot(" + number + ")", Check.ARGUMENT, () -> mills.nearRoot(number));
+    private static void nearRoots(Check check, int number) {
+        PellMills mills = Scene.milled(number);
+        int greatest = Scene.greatestPower(number);
+        for (int power = 1; power <= greatest; power++) {
+            mills.mill(number);
+            float due = BigInteger.valueOf(mills.xOf(number)).floatValue() / BigInteger.valueOf(mills.yOf(number)).floatValue();
+            check.due("nearRoot(" + number + ") at " + power, mills.nearRoot(number), due);
         }
-        check.due("wrong numbers change nothing", mills.states(), 1);
     }
 
-    private static void checkNotLaid(Check check) {
-        PellMills mills = Check.milled(2);
-        for (int number : new int[] {3, 4, 60}) {
-            check.dueThrow("promise 3: take(" + number + ")", Check.STATE, () -> mills.take(number));
-            check.dueThrow("promise 4: mill(" + number + ")", Check.STATE, () -> mills.mill(number));
-            check.dueThrow("promise 5: millBack(" + number + ")", Check.STATE, () -> mills.millBack(number));
-            check.dueThrow("promise 15: stoneFrom(" + number + ")", Check.NONE, () -> mills.stoneFrom(number));
-            check.dueThrow("promise 16: powerOf(" + number + ")", Check.NONE, () -> mills.powerOf(number));
-            check.dueThrow("promise 17: xOf(" + number + ")", Check.NONE, () -> mills.xOf(number));
-            check.dueThrow("promise 18: yOf(" + number + ")", Check.NONE, () -> mills.yOf(number));
-            check.dueThrow("promise 19: signOf(" + number + ")", Check.NONE, () -> mills.signOf(number));
-            check.dueThrow("promise 20: signByRemainders(" + number + ")", Check.NONE, () -> mills.signByRemainders(number));
-            check.dueThrow("promise 21: nearRoot(" + number + ")", Check.NONE, () -> mills.nearRoot(number));
-        }
-        check.due("refusals change nothing", mills.states(), 1);
+    /** The sentences that promises 16 to 21 share. */
+    private static void numbersOfStones(Check check, Check.CallOfNumber made) {
+        check.sentence("number: 2 to 60");
+        check.numbersFrom2To60(made);
+        check.changesNothing("the call with 2, which is laid", Scene.FULL, at -> made.answer(at, 2));
+        check.changesNothing("the call with 60, which is laid", Scene.FULL, at -> made.answer(at, 60));
+        check.sentence(OUT_OF_RANGE);
+        check.numbersOutOfRange(made);
+    }
+
+    private static void notLaid(Check check, Check.CallOfNumber made) {
+        check.refused("the call with 2 of none", Check.NONE, Scene.FRESH, at -> made.answer(at, 2));
+        check.refused("the call with 60 of none", Check.NONE, Scene.FRESH, at -> made.answer(at, 60));
+        check.refused("the call with 3, which was taken", Check.NONE, Scene.BUSY, at -> made.answer(at, 3));
+        check.refused("the call with 6 beside 7", Check.NONE, Scene.BUSY, at -> made.answer(at, 6));
+        check.refused("the call with 8 beside 7", Check.NONE, Scene.BUSY, at -> made.answer(at, 8));
+        check.refused("the call with 4, a square", Check.NONE, Scene.BUSY, at -> made.answer(at, 4));
+        check.changesNothing("the call with 7, which is laid", Scene.BUSY, at -> made.answer(at, 7));
     }
 }
