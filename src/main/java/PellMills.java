@@ -594,7 +594,7 @@ public final class PellMills {
         }
 
         void pass(int count) {
-            for (int passed = 0; passed < count && size > 0; passed++) {
+            for (int passed = 0; passed < count && passed < FAR_BOUND && size > 0; passed++) {
                 passFirst();
             }
         }

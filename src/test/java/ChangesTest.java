@@ -405,7 +405,8 @@ public final class ChangesTest {
     private static void manyCalls(Check check) {
         check.heading("What it is");
         check.sentence("An object is used for at most 512 calls after it has been made; what later calls answer is free.");
-        PellMills mills = Scene.milled(2);
+        PellMills mills = new PellMills();
+        mills.lay(2);
         for (int call = 2; call <= 511; call += 2) {
             check.due("mill(2), the call " + call, mills.mill(2), 1);
             check.due("millBack(2), the call " + (call + 1), mills.millBack(2), 1);

@@ -41,12 +41,15 @@ final class Look {
         tell("milled", mills::milled);
         tell("minusStones", mills::minusStones);
         tell("solutions", mills::solutions);
-        for (int number = 2; number <= 60; number++) {
-            if (mills.isLaid(number)) {
-                tellStone(number);
-            }
+        for (int number = nextStone(2); number != 0; number = nextStone(number + 1)) {
+            tellStone(number);
         }
         told.append('\n');
+    }
+
+    /** Asked for this way, since 59 calls of isLaid would soon be more calls than an object is used for. */
+    private int nextStone(int number) {
+        return Check.outcome(() -> mills.stoneFrom(number)) instanceof Integer stone ? stone : 0;
     }
 
     private void tellStone(int number) {

@@ -6,6 +6,7 @@ public final class ModelTest {
     private static final int CALLS = 512;
     private static final int KINDS = 37;
     private static final int[] LIKELY = {2, 3, 5, 7, 13, 46, 53, 60};
+    private static final int IS_LAID = 12;
     private static final int CLEAR = 31;
     private static final int TYPE = 32;
     private static final int FAULT = 33;
@@ -65,7 +66,7 @@ public final class ModelTest {
         for (int orders = random.nextInt(14); orders > 0; orders--) {
             char order = "lmmmbt".charAt(random.nextInt(6));
             int number = LIKELY[random.nextInt(LIKELY.length)];
-            boolean laid = mills.isLaid(number);
+            boolean laid = model.answer(IS_LAID, number, 0, 0, 0).equals(1L);
             if (laid == (order != 'l') || random.nextInt(8) == 0) {
                 text.append(order).append(random.nextInt(4) == 0 && number < 10 ? "0" : "").append(number).append(';');
             }
@@ -120,7 +121,7 @@ public final class ModelTest {
             case 9: return (long) mills.leastY(number);
             case 10: return (long) mills.leastYBySearch(number);
             case 11: return (long) mills.stones();
-            case 12: return mills.isLaid(number) ? 1L : 0L;
+            case IS_LAID: return mills.isLaid(number) ? 1L : 0L;
             case 13: return (long) mills.stoneFrom(number);
             case 14: return (long) mills.powerOf(number);
             case 15: return mills.xOf(number);

@@ -66,12 +66,13 @@ public final class RootsTest {
         check.sentence("The period is the number of the first term, from 1 on, that is 2 times w.");
         for (int number = 2; number <= 60; number++) {
             if (!Scene.isSquare(number)) {
-                firstTermThatIsTwice(check, mills, number);
+                firstTermThatIsTwice(check, number);
             }
         }
     }
 
-    private static void firstTermThatIsTwice(Check check, PellMills mills, int number) {
+    private static void firstTermThatIsTwice(Check check, int number) {
+        PellMills mills = new PellMills();
         int whole = mills.termAt(number, 0);
         int period = mills.periodOf(number);
         for (int place = 1; place < period; place++) {

@@ -105,21 +105,24 @@ public final class SolutionsTest {
     }
 
     private static void mostSolutions(Check check) {
-        PellMills mills = Scene.milled(2, 3, 5, 8, 10, 15, 17, 24);
+        int[] numbers = {2, 3, 5, 8, 10, 15, 17, 24};
+        PellMills mills = Scene.milled(numbers);
         int all = mills.solutions();
         int one = 0;
-        for (int number : new int[] {2, 3, 5, 8, 10, 15, 17, 24}) {
+        for (int number : numbers) {
             one += Scene.milled(number).solutions();
         }
         check.due("solutions() of eight stones", all, one);
         Map<Long, Integer> upTo = new TreeMap<>();
         for (int place = 0; place < all; place++) {
-            check.due("xAtBySet(" + place + ") of eight", mills.xAtBySet(place), mills.xAt(place));
-            upTo.put(mills.xAt(place), place + 1);
+            long x = mills.xAt(place);
+            check.due("xAtBySet(" + place + ") of eight", mills.xAtBySet(place), x);
+            upTo.put(x, place + 1);
         }
+        PellMills again = Scene.milled(numbers);
         for (long x : upTo.keySet()) {
             int count = upTo.get(x);
-            check.due("solutionsUpTo(" + x + ") of eight", mills.solutionsUpTo(x), count);
+            check.due("solutionsUpTo(" + x + ") of eight", again.solutionsUpTo(x), count);
         }
         check.dueThrow("xAt behind the last of eight", Check.NONE, () -> mills.xAt(all));
         check.dueThrow("xAtBySet behind the last of eight", Check.NONE, () -> mills.xAtBySet(all));
@@ -145,7 +148,8 @@ public final class SolutionsTest {
         check.heading("Promise 24");
         check.sentence("Returns the same, told by a set of all powers.");
         PellMills mills = Scene.FULL.made();
-        for (int place = 0; place < mills.solutions(); place++) {
+        int all = mills.solutions();
+        for (int place = 0; place < all; place++) {
             check.due("xAtBySet(" + place + ") of eight stones", mills.xAtBySet(place), mills.xAt(place));
         }
         check.sentence("place: 0 for the first one, and so on");

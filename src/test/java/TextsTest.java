@@ -58,9 +58,8 @@ public final class TextsTest {
     }
 
     private static void lettersBeside(Check check) {
-        PellMills laid = Scene.milled(2, 2);
         for (char letter = 32; letter <= 126; letter++) {
-            laid.clearText();
+            PellMills laid = Scene.milled(2, 2);
             laid.type(letter);
             Scene.type(laid, letter == 'l' ? "3;" : "2;");
             boolean isOrder = "ltmb".indexOf(letter) >= 0;
